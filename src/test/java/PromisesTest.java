@@ -145,6 +145,8 @@ public final class PromisesTest {
         lifeFault("at 007 from 0 to 1", 3);
         lifeFault("at x from 0 to 1", 3);
         lifeFault("att 1 from 0 to 1", 0);
+        lifeFault("atz 1 from 0 to 1", 0);
+        lifeFault("at 0 from 0 to 0", NONE);
         lifeFault("a t 1 from 0 to 1", 0);
         lifeFault("At 1 from 0 to 1", 0);
         lifeFault("aT 1 from 0 to 1", 0);
@@ -362,6 +364,10 @@ public final class PromisesTest {
         due(17, "all", x.slips(6), 15);
         x.view(0, 3);
         due(17, "seen from afar", x.slips(1), 0);
+        OneManDesk y = desk();
+        y.send(0, 5, 0, 0, 0, 5, 1);
+        y.send(0, 5, 0, 0, 0, 5, 2);
+        due(17, "unlike the very first", y.slips(1), 4);
     }
 
     static void lacks() {
@@ -415,6 +421,8 @@ public final class PromisesTest {
         x.fact(7, 3, 60, 60, 1, true);
         x.home(3, 7);
         due(19, "the last day", x.ill(3), 60);
+        x.fact(7, 3, 0, 0, 1, true);
+        due(19, "the first day", x.ill(3), 0);
         for (int n : new int[] {-1, 6, LEAST, MOST}) due(19, "agent", x.ill(n), UNKNOWN);
     }
 
@@ -668,6 +676,33 @@ public final class PromisesTest {
         due(30, "reader 1 knows", y.holds(1, 5), 0);
     }
 
+    /** Ten drafts, each needed and each as dear as can be. */
+    static void allDrafts() {
+        OneManDesk x = text(desk(), "right 1;begin 40;need 49");
+        x.table(0);
+        x.eyes(0, 0, 0, 60);
+        x.story(1, 0, 5, 8);
+        for (int d = 0; d < 10; d++) {
+            if (d < 9) x.draft(0, d, 1, 0, 0, d, 0);
+            else x.draft(0, d, 1, 1, 0, 5, 8);
+            x.mark(d, 0, 99);
+            x.mark(d, 1, 99);
+        }
+        due(30, "all ten", x.make(20), 1023);
+        due(31, "nine", x.buy(0, 20, 49), 511);
+        due(31, "no more", x.buy(0, 20, 50), NONE);
+        OneManDesk y = text(desk(), "right 1;begin 40");
+        y.table(0);
+        y.eyes(0, 0, 0, 60);
+        for (int d = 0; d < 10; d++) {
+            y.draft(0, d, 1, 0, 0, d, 0);
+            y.mark(d, 1, 99);
+        }
+        due(31, "all ten", y.buy(0, 20, 50), 1023);
+        for (int i = 0; i < 24; i++) y.send(1, 60, 2, 7, 3, 60, 9);
+        due(31, "beside a full row of letters", y.buy(0, 20, 41), 1);
+    }
+
     static void buy() {
         OneManDesk x = desk();
         x.fact(0, 0, 0, 60, 5, false);
@@ -819,6 +854,7 @@ public final class PromisesTest {
         mark();
         make();
         buy();
+        allDrafts();
         signs();
         which();
         warning();
