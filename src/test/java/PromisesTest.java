@@ -674,6 +674,12 @@ public final class PromisesTest {
         y.eyes(1, 1, 5, 5);
         due(30, "for reader 0", y.make(5), 0);
         due(30, "reader 1 knows", y.holds(1, 5), 0);
+        OneManDesk z = desk();
+        z.story(1, 0, 5, 0);
+        z.eyes(0, 1, 5, 5);
+        due(30, "known so, though nobody tells", z.make(5), 0);
+        z.send(0, 5, 1, 1, 0, 5, 4);
+        due(30, "known so, whatever is told", z.make(5), 0);
     }
 
     /** Ten drafts, each needed and each as dear as can be. */
