@@ -339,12 +339,22 @@ public final class EdgesTest {
                 ahead += token + " ";
             }
         }
+        for (int missing = 0; missing < tokens.length - 1; missing++) {
+            String ahead = "", behind = "";
+            for (int i = 0; i < tokens.length; i++) {
+                if (i < missing) ahead += tokens[i] + " ";
+                if (i > missing) behind += tokens[i] + " ";
+            }
+            life(ahead + behind, ahead.length());
+        }
         life("at 1 from 2 to 3 4", 17);
         life("at 1 from 2 to 3 x", 17);
         life("at 8 from 99 to x", 3);
         life("at at 1 from", 3);
         table("begin 1 ; begin 2 3", 18);
         table("begin begin", 6);
+        table("begin ; right 1", 6);
+        table("1 ; right 1", 0);
         table("need 100 ; x", 5);
         table("; need 1", 0);
         table("need 1 ;; need 2", 8);
@@ -575,6 +585,11 @@ public final class EdgesTest {
         due("the first of its days", x.ill(5), 10);
         x.fact(0, 0, 0, 0, 1, true);
         due("day 0", x.ill(5), 0);
+        OneManDesk y = desk();
+        for (int i = 0; i < 15; i++) y.fact(0, 0, 30, 30, 1, i == 0);
+        due("by the first fact", y.ill(0), 30);
+        y.fact(0, 0, 29, 29, 1, true);
+        due("by the last fact", y.ill(0), 29);
         for (int n : new int[] {-1, 6, LEAST, MOST}) due("agent " + n, x.ill(n), UNKNOWN);
     }
 
@@ -864,8 +879,12 @@ public final class EdgesTest {
         due("all four", x.make(5), 15);
         weighing(x, 0, "need 99;begin 24");
         due("four are too few", x.make(5), NONE);
+        due("a day too early again", x.make(4), NONE);
         x.send(4, 5, 1, 1, 0, 5, 8);
         due("beside a letter", x.make(5), 15);
+        weighing(x, 0, "need 49;begin 25");
+        due("a letter and one", x.make(5), 1);
+        due("a letter and one, a day too early", x.make(4), NONE);
         weighing(x, 0, "need 99;begin 99");
         due("a letter alone", x.make(5), 0);
         for (int n : new int[] {-1, 61, LEAST, MOST}) due("day " + n, x.make(n), OUTSIDE);
@@ -887,6 +906,93 @@ public final class EdgesTest {
         due("what reader 0 knows", x.make(0), 0);
         x.fact(0, 0, 0, 0, 1, false);
         due("what it knows otherwise", x.make(0), NONE);
+    }
+
+    static void makeFourLines() {
+        says("THE STORY HOLDS for READER 0 on a DAY, with the least RISK together");
+        OneManDesk x = desk();
+        for (int i = 0; i < 4; i++) {
+            x.story(i, 0, 0, 5);
+            x.draft(i, 10 + i, 1, i, 0, 0, 5);
+        }
+        due("three of four come", x.make(12), NONE);
+        due("all four come", x.make(13), 15);
+        due("three of four again", x.make(12), NONE);
+        x.send(5, 13, 1, 3, 0, 0, 5);
+        due("the last is told by a letter", x.make(13), 7);
+        x.eyes(0, 2, 0, 0);
+        due("the third is known otherwise", x.make(13), NONE);
+        x.fact(2, 0, 0, 0, 5, false);
+        due("the third is known so", x.make(13), 3);
+        OneManDesk y = weighing(desk(), 0, "need 99");
+        for (int i = 0; i < 4; i++) y.story(0, 0, 0, 5);
+        for (int a = 0; a < 3; a++) y.draft(a, 0, 1, 0, 0, 0, 5);
+        due("one line four times", y.make(0), 3);
+        y.send(5, 0, 1, 0, 0, 0, 9);
+        due("against another v", y.make(0), 3);
+        y.send(4, 0, 1, 0, 0, 0, 0);
+        y.send(3, 0, 1, 0, 0, 0, 0);
+        due("against two who tell less", y.make(0), 7);
+    }
+
+    static void makeByTrust() {
+        says("MAKE: the set of DRAFTS with which, sent beside all LETTERS");
+        OneManDesk x = weighing(desk(), 0, "begin 40;right 1;need 49");
+        x.eyes(0, 0, 0, 60);
+        x.story(1, 0, 5, 8);
+        x.draft(0, 0, 1, 1, 0, 5, 8);
+        for (int d = 1; d < 10; d++) x.draft(0, d, 1, 0, 0, d, 0);
+        for (int d = 0; d < 10; d++) for (int what = 0; what < 2; what++) x.mark(d, what, 99);
+        due("all ten, each of risk 99", x.make(9), 1023);
+        due("one has not come", x.make(8), NONE);
+        due("nine of cost 99 buy nine", x.buy(0, 9, 49), 1022);
+        due("one buys one", x.buy(0, 9, 41), 2);
+        weighing(x, 0, "begin 39;right 1;need 49");
+        due("ten are too few", x.make(9), NONE);
+        weighing(x, 0, "begin 40;right 9;need 49");
+        due("one more is enough", x.make(9), 3);
+        x.send(0, 9, 1, 0, 0, 9, 0);
+        due("the letter is enough", x.make(9), 1);
+        x.send(0, 9, 1, 0, 0, 8, 1);
+        due("a false letter: four more", x.make(9), 31);
+        weighing(x, 0, "begin 40;right 9;wrong 27;need 49");
+        due("a false letter: three more", x.make(9), 15);
+        x.send(1, 9, 1, 1, 0, 5, 7);
+        due("another weighs less", x.make(9), 15);
+        weighing(x, 0, "begin 49;right 9;wrong 18;need 49");
+        due("another weighs as much and tells less", x.make(9), 7);
+        OneManDesk y = desk();
+        y.eyes(0, 0, 0, 60);
+        y.story(1, 0, 5, 8);
+        y.send(0, 0, 1, 1, 0, 5, 8);
+        y.send(1, 0, 1, 1, 0, 5, 7);
+        y.draft(1, 9, 1, 0, 0, 9, 1);
+        due("not yet", y.make(8), NONE);
+        due("a false one takes the other's weight", y.make(9), 1);
+        weighing(y, 0, "wrong 1");
+        due("a weight of one is enough", y.make(9), 1);
+        weighing(y, 0, "wrong 0");
+        due("no weight is not", y.make(9), NONE);
+    }
+
+    static void buyAllTen() {
+        says("with the least COST; RIGHT ones alone; none.");
+        OneManDesk x = weighing(desk(), 0, "begin 40;right 1");
+        x.eyes(0, 0, 0, 60);
+        for (int d = 0; d < 10; d++) {
+            x.draft(5, d, 1, 0, 0, d, 0);
+            x.mark(d, 1, 99);
+        }
+        due("all ten, each of cost 99", x.buy(5, 9, 50), 1023);
+        due("one has not come", x.buy(5, 8, 50), NONE);
+        due("nine", x.buy(5, 8, 49), 511);
+        due("ten are too few", x.buy(5, 60, 51), NONE);
+        x.fact(0, 0, 9, 9, 1, false);
+        due("the last is not right", x.buy(5, 60, 50), NONE);
+        for (int i = 0; i < 24; i++) x.send(4, 0, 1, 0, 0, 0, 0);
+        due("beside 24 letters", x.buy(5, 60, 49), 511);
+        due("of another agent", x.buy(4, 60, 64), 0);
+        due("24 and 40 are 64", x.buy(4, 60, 65), NONE);
     }
 
     static void buys() {
@@ -1071,7 +1177,7 @@ public final class EdgesTest {
         lacksSeen(); lacksTold(); illOn();
         tables(); eyesHad(); knows(); trustBy(); lateOnes(); trustBounds(); weights(); ofSeveral();
         storyLines(); holdsAll(); keepsOn();
-        drafts(); leastRisk(); makeOfNothing(); buys(); signsTold(); questions(); pays(); warnings(); counts();
+        drafts(); leastRisk(); makeOfNothing(); makeFourLines(); makeByTrust(); buys(); buyAllTen(); signsTold(); questions(); pays(); warnings(); counts();
         notNow(); manyCalls();
         System.out.println(checks + " checks of " + sentences + " sentences, " + wrong + " wrong");
         if (wrong != 0) System.exit(1);
